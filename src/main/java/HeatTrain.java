@@ -380,7 +380,9 @@ public final class HeatTrain {
     private long warmthLater(int stream, int unit, int number) {
         trial.copyFrom(streams);
         for (int i = 0; i < TICKS_OF_A_GAIN; i++) {
-            units.tryAll(trial, unit, number);
+            for (int u = 0; u < units.count(); u++) {
+                units.give(trial, u, u == unit ? number : units.numberOf(u));
+            }
         }
         return trial.warmthOf(stream);
     }
@@ -578,17 +580,15 @@ public final class HeatTrain {
             }
         }
 
-        void tryAll(Streams streams, int changed, int changedNumber) {
-            for (int u = 0; u < made && u < MOST_UNITS; u++) {
-                give(streams, u, u == changed ? changedNumber : number[u]);
-            }
-        }
-
         /**
-         * Units give by rising numbers into the same rows that they take from: what a lower unit gave
-         * is of this tick then, what the unit itself or a higher one gave still of the tick ahead.
+         * Lets a unit give its streams by a number, and tells what it moved. Units give by rising numbers
+         * into the same rows that they take from: what a lower unit gave is of this tick then, what the
+         * unit itself or a higher one gave still of the tick ahead.
          */
-        private long give(Streams streams, int u, int by) {
+        long give(Streams streams, int u, int by) {
+            if (!isMade(u)) {
+                return 0;
+            }
             switch (kind[u]) {
                 case SOURCE:
                     streams.fill(2 * u, by, (long) by * degrees[u]);

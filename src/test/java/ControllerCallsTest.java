@@ -25,6 +25,7 @@ public final class ControllerCallsTest {
         alarmsAgain();
         limitOfThen();
         alarmOrder();
+        mostAlarms();
         Check.end();
     }
 
@@ -482,5 +483,25 @@ public final class ControllerCallsTest {
         Check.due("the next", 2, x.quit());
         Check.due("the least", 4, x.quit());
         Check.due("none", HeatTrain.NONE, x.quit());
+    }
+
+    /** A source without a flow is cold, so that the controller 0 turns it on and off by turns. */
+    private static void mostAlarms() {
+        HeatTrain x = new HeatTrain();
+        x.source(0, 300);
+        x.source(0, 0);
+        x.control(0, 1499, 1, 0, 0);
+        x.aim(0, 1499, 1500);
+        for (int c = 1; c < 6; c++) {
+            x.control(0, 0, 0, 0, 1);
+        }
+        for (int i = 0; i < 6; i++) {
+            x.tick(50);
+        }
+        Check.due("an alarm of each in every second tick", 900, x.alarms());
+        for (int i = 0; i < 480; i++) {
+            Check.due("by ticks, and by controllers", 1 + i % 5, x.quit());
+        }
+        Check.due("those that are left", 420, x.alarms());
     }
 }
