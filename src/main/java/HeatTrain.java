@@ -128,7 +128,8 @@ public final class HeatTrain {
         } else {
             needHigherController(unit - FIRST_GOAL);
         }
-        if (isOutside(goal, 0, MOST_TENTHS) || isOutside(gain, -MOST_GAIN, MOST_GAIN) || isOutside(base, 0, MOST_BASE)) {
+        if (isOutside(goal, 0, MOST_TENTHS) || isOutside(gain, -MOST_GAIN, MOST_GAIN)
+                || isOutside(base, 0, MOST_BASE)) {
             throw new IllegalArgumentException("goal, gain or base is out of range");
         }
         needNoMix(unit);
