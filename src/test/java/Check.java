@@ -5,13 +5,24 @@ final class Check {
         long answer();
     }
 
+    /** A call of the program with one argument that changes. */
+    interface CallOf {
+        long answer(int value);
+    }
+
     static final Class<? extends RuntimeException> ARGUMENT = IllegalArgumentException.class;
     static final Class<? extends RuntimeException> INDEX = IndexOutOfBoundsException.class;
     static final Class<? extends RuntimeException> STATE = IllegalStateException.class;
 
     private static int wrong = 0;
+    private static String about = "";
 
     private Check() {
+    }
+
+    /** What is wrong from now on is told with the sentence that it breaks. */
+    static void about(String sentence) {
+        about = sentence + "\n    ";
     }
 
     static void due(String call, long want, long got) {
@@ -24,11 +35,25 @@ final class Check {
         due(call, want ? 1 : 0, got ? 1 : 0);
     }
 
+    static void same(String what, String want, String got) {
+        if (!want.equals(got)) {
+            report(what + ":\n" + got + "\n    due is\n" + want);
+        }
+    }
+
     static void refused(String call, Class<? extends RuntimeException> want, Call made) {
         String got = outcome(made);
         String due = "throws " + want.getSimpleName();
         if (!got.equals(due)) {
             report(call + " " + got + ", due is that it " + due);
+        }
+    }
+
+    /** Next to both ends of a range, and as far out of it as a number can be. */
+    static void refusedOutside(String call, Class<? extends RuntimeException> want, int least, int most, CallOf made) {
+        int[] outside = {least - 1, most + 1, Integer.MIN_VALUE, Integer.MAX_VALUE};
+        for (int value : outside) {
+            refused(call + " of " + value, want, () -> made.answer(value));
         }
     }
 
@@ -42,7 +67,7 @@ final class Check {
 
     static void report(String text) {
         wrong++;
-        System.out.println(text);
+        System.out.println(about + text);
     }
 
     static int wrongs() {

@@ -96,7 +96,8 @@ public final class FaceTest {
                 open.add(f.getName());
             }
         }
-        Set<String> want = new HashSet<>(Arrays.asList("NONE", "NO_GAIN", "SOURCE", "SPLIT", "MIX", "EXCHANGE", "COOLER"));
+        String[] constants = {"NONE", "NO_GAIN", "SOURCE", "SPLIT", "MIX", "EXCHANGE", "COOLER"};
+        Set<String> want = new HashSet<>(Arrays.asList(constants));
         if (!open.equals(want)) {
             Check.report("the fields to be seen are " + open + ", due are " + want);
         }

@@ -4,13 +4,15 @@
  */
 public final class RandomRunsTest {
     private static final int RUNS = 3000;
-    private static final int CALLS = 480;
+    /** After these an object's answers are free. */
+    private static final int CALLS = 512;
 
     private static long seed;
     private static HeatTrain train;
     private static Model model;
     private static int units;
     private static int controllers;
+    private static int calls;
 
     public static void main(String[] args) {
         for (int run = 0; run < RUNS && Check.wrongs() < 10; run++) {
@@ -60,9 +62,10 @@ public final class RandomRunsTest {
         controllers = 0;
         int steps = 1 + under(9);
         int making = 6 + under(40);
-        for (int i = 0; i < CALLS && Check.wrongs() < 10; i++) {
-            String at = "run " + run + ", call " + i + ": ";
-            if (i < making) {
+        calls = 0;
+        while (calls < CALLS && Check.wrongs() < 10) {
+            String at = "run " + run + ", call " + calls + ": ";
+            if (calls < making) {
                 make(at);
             } else if (rarely()) {
                 make(at);
@@ -75,6 +78,7 @@ public final class RandomRunsTest {
     }
 
     private static void same(String call, Check.Call got, Check.Call want) {
+        calls++;
         String answered = Check.outcome(got);
         String due = Check.outcome(want);
         if (!answered.equals(due)) {
@@ -196,6 +200,20 @@ public final class RandomRunsTest {
         }
     }
 
+    private static void askAll(String at) {
+        switch (under(3)) {
+            case 0:
+                Check.due(at + "the model's balance", 0, model.balance());
+                same(at + "balance()", () -> train.balance(), () -> model.balance());
+                break;
+            case 1:
+                same(at + "now()", () -> train.now(), () -> model.now());
+                break;
+            default:
+                same(at + "alarms()", () -> train.alarms(), () -> model.alarms());
+        }
+    }
+
     private static long voidly(Runnable call) {
         call.run();
         return 0;
@@ -229,10 +247,7 @@ public final class RandomRunsTest {
                     () -> train.trend(stream, tick), () -> model.trend(stream, tick));
                 break;
             case 6:
-                Check.due(at + "balance() is 0", 0, model.balance());
-                same(at + "balance()", () -> train.balance(), () -> model.balance());
-                same(at + "now()", () -> train.now(), () -> model.now());
-                same(at + "alarms()", () -> train.alarms(), () -> model.alarms());
+                askAll(at);
                 break;
             case 7:
                 same(at + "gain(" + unit + ", " + stream + ")",
