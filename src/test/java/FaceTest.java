@@ -1,13 +1,18 @@
+import java.io.IOException;
 import java.lang.reflect.Constructor;
 import java.lang.reflect.Field;
 import java.lang.reflect.Method;
 import java.lang.reflect.Modifier;
+import java.nio.file.Files;
+import java.nio.file.Path;
 import java.util.ArrayList;
 import java.util.Arrays;
 import java.util.HashSet;
 import java.util.List;
 import java.util.Set;
 import java.util.TreeSet;
+import java.util.regex.Matcher;
+import java.util.regex.Pattern;
 
 /** The public face, as the document writes it, and nothing else that can be seen. */
 public final class FaceTest {
@@ -39,10 +44,15 @@ public final class FaceTest {
         "int now()",
     };
 
-    public static void main(String[] args) {
+    private static final Pattern PUBLIC_PART = Pattern.compile("\\b(public [^;{]*)[;{]");
+    private static final Path DOCUMENT = Path.of("../shared/DOC.md");
+    private static final Path PROGRAM = Path.of("src/main/java/HeatTrain.java");
+
+    public static void main(String[] args) throws IOException {
         constants();
         methods();
         members();
+        asTheDocumentWritesIt();
         Check.end();
     }
 
@@ -118,5 +128,26 @@ public final class FaceTest {
                 }
             }
         }
+    }
+
+    /** Names of parameters too, in the order of the document, with nothing public between. */
+    private static void asTheDocumentWritesIt() throws IOException {
+        if (!Files.exists(DOCUMENT)) {
+            System.out.println("without " + DOCUMENT + ", the face is not compared with it");
+            return;
+        }
+        List<String> due = publicParts(Files.readString(DOCUMENT).split("```")[1]);
+        List<String> there = publicParts(Files.readString(PROGRAM));
+        Check.same("the public parts", String.join("\n", due), String.join("\n", there));
+    }
+
+    /** What stands from each 'public' to the end or the body of that part, in one line. */
+    private static List<String> publicParts(String text) {
+        List<String> parts = new ArrayList<>();
+        Matcher found = PUBLIC_PART.matcher(text);
+        while (found.find()) {
+            parts.add(found.group(1).replaceAll("\\s+", " ").trim());
+        }
+        return parts;
     }
 }

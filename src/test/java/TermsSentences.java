@@ -1,4 +1,4 @@
-/** The sentences of 'Terms', of the length of an object's use, and of streams and units. */
+/** The sentences of 'What it is', of 'Terms', and of streams and units. */
 final class TermsSentences {
     private static final int SPLIT = HeatTrain.SPLIT, MIX = HeatTrain.MIX;
     private static final int EXCHANGE = HeatTrain.EXCHANGE, COOLER = HeatTrain.COOLER;
@@ -7,6 +7,7 @@ final class TermsSentences {
     }
 
     static void run() {
+        aTrainAndItsControllers();
         fiveHundredTwelveCalls();
         heatIsNamed();
         questionsChangeNothing();
@@ -25,6 +26,51 @@ final class TermsSentences {
         exchanges();
         exchangesMove();
         coolers();
+    }
+
+    private static void aTrainAndItsControllers() {
+        Sentences.test("What it is: A train of heat exchangers and its controllers: units in a graph that carry flows"
+                + " and heat, exchangers by how much they can transfer, loops with ratio, cascade, feedforward and"
+                + " override with external reset, disturbances that are scripted, trends that are kept, alarms in their"
+                + " order, and relative gains that choose the pairing.");
+        HeatTrain x = new HeatTrain();
+        x.source(100, 200);
+        x.source(50, 20);
+        x.unit(EXCHANGE, 0, 2, 50);
+        x.unit(COOLER, 4, 0, 100);
+        x.control(5, 900, 10, 40, 101);
+        x.control(5, 0, 40, 50, 2);
+        x.feed(1, 2, 10);
+        x.ratio(2, 80, 2);
+        x.disturb(2, 1, 80);
+        x.aim(1, 0, 300);
+        x.tick(1);
+        Check.due("the ratio of the tick 1, without a flow yet", 0, x.ofController(2, 2));
+        Check.due("the controller 1: 50, 40 times 49 divided by 1000, and the feed of -20", 31, x.ofController(1, 2));
+        Check.due("its sum, by the reset", -30000, x.ofController(1, 1));
+        Check.due("the number of the EXCHANGE, the least output", 0, x.ofUnit(2, 0));
+        x.tick(1);
+        Check.due("the flow by the disturbance", 80, x.of(2, 0));
+        Check.due("the controller 0: 40, and 10 times 900 and 700 divided by 1000", 56, x.ofController(0, 2));
+        Check.due("the goal by the cascade", 56, x.ofController(1, 0));
+        Check.due("the ratio of the tick 2", 40, x.ofController(2, 2));
+        Check.due("the number of the EXCHANGE", 15, x.ofUnit(2, 0));
+        Check.due("15 times 80 times 1800 divided by 950", 2273, x.ofUnit(2, 1));
+        Trains.due("the tick 2", x, 6, 100, 20000 - 2273 - 100);
+        x.tick(1);
+        Check.due("the trend of the tick 1", 200, x.trend(5, 1));
+        Check.due("the trend of the tick 2", 484, x.trend(5, 2));
+        Check.due("the balance", 0, x.balance());
+        Check.due("alarms, of 900 in the tick 1 and of -424 in the tick 3", 2, x.alarms());
+        Check.due("the alarm of 400 more", 0, x.quit());
+        Check.due("the alarm of 124 more", 1, x.quit());
+        x.set(1, 50);
+        x.set(2, 15);
+        Check.due("the gain of the flow on 5, from 3076 of 50 to 3106 of 51", -6, x.gain(1, 5));
+        Check.due("that on 6, from 17824 of 100 to 17814 of 100", -1, x.gain(1, 6));
+        Check.due("the gain of the EXCHANGE on 5, to 3181 of 50", 21, x.gain(2, 5));
+        Check.due("that on 6, to 17719 of 100", -11, x.gain(2, 6));
+        Check.due("6600 divided by 87, 50 or more: the flow is paired with 5", 75, x.relative(1, 2, 5, 6));
     }
 
     private static void fiveHundredTwelveCalls() {
