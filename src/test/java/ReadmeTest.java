@@ -20,7 +20,8 @@ public final class ReadmeTest {
     private static final Path TESTS = Path.of("src/test/java");
     private static final Path COMMAND = Path.of(".ci/run");
 
-    private static final Pattern STATEMENT = Pattern.compile("((?:\\w+ )?(\\w+) = )?(.*);(?: +// (\\w+) ?(\\S*).*)?");
+    private static final Pattern STATEMENT = Pattern.compile(
+            "(?:\\w+ (?<name>\\w+) = )?(?<call>.*);(?: +// (?<verb>\\w+) (?<due>[-\\w]+).*)?");
     private static final Pattern CALL = Pattern.compile("`([a-z]\\w*)\\(([^`]*)\\)`");
     private static final Pattern TEST_ROW = Pattern.compile("\\| `(\\w+Test)` .*");
 
@@ -48,10 +49,7 @@ public final class ReadmeTest {
         }
     }
 
-    private static int run(String tool, String... arguments) throws IOException, InterruptedException {
-        List<String> command = new ArrayList<>();
-        command.add(Path.of(System.getProperty("java.home"), "bin", tool).toString());
-        command.addAll(List.of(arguments));
+    private static int run(String... command) throws IOException, InterruptedException {
         return new ProcessBuilder(command).inheritIO().start().waitFor();
     }
 
@@ -97,17 +95,15 @@ public final class ReadmeTest {
             Check.report("the example '" + line + "' is no statement");
             return "";
         }
-        String declared = found.group(1) == null ? "" : found.group(1);
-        String call = found.group(3);
-        String name = call.replace("\"", "\\\"");
-        String says = found.group(5) == null ? "" : found.group(5).replaceAll(":$", "");
-        if ("throws".equals(found.group(4))) {
-            String outcome = "Check.outcome(() -> " + call + ")";
-            return "Check.same(\"" + name + "\", \"throws " + says + "\", " + outcome + ");";
+        String name = found.group("name");
+        String call = found.group("call");
+        String due = found.group("due");
+        if ("throws".equals(found.group("verb"))) {
+            return "Check.same(\"" + call + "\", \"throws " + due + "\", Check.outcome(() -> " + call + "));";
         }
-        if ("answers".equals(found.group(4))) {
-            String due = "Check.due(\"" + name + "\", " + says + ", ";
-            return declared.isEmpty() ? due + call + ");" : line + "\n" + due + found.group(2) + ");";
+        if ("answers".equals(found.group("verb"))) {
+            String ahead = name == null ? "" : line + "\n";
+            return ahead + "Check.due(\"" + call + "\", " + due + ", " + (name == null ? call : name) + ");";
         }
         return line;
     }
